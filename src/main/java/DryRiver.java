@@ -946,7 +946,7 @@ public final class DryRiver {
         static final int LOWER = 16;
         static final int KINDS = 32;
 
-        // Each cell stems from a thing of the text that is a byte long at least.
+        // Never more cells than bytes: a comparison has one more than bytes, the word ahead of it one less at least.
         final int[] cells = new int[MOST_BYTES];
         int size;
         int lines = NONE;
