@@ -166,6 +166,9 @@ final class PromiseTest {
         townFault("Chest 5", 0);
         townFault(" chests 5", 1);
         townFault("ches 5", 0);
+        townFault("chestz 5", 0);
+        townFault("zhest 5", 0);
+        townFault("chest 0", NONE);
         townFault("5", 0);
         townFault("chest", 5);
         townFault("chest  ", 7);
@@ -252,6 +255,13 @@ final class PromiseTest {
         C.is("a text lets acts be forgotten", 0, x.count(12));
         C.is("turns by no line", 0, x.person(1, 6));
         C.is("no line is a text", 0, x.count(3));
+        Check.law(x, "lower 1 if who>9;raise 4;raise 1 if who>9;lower 2");
+        C.is("a line that does not hold leaves the next one alone", 2, x.person(0, 6));
+        Check.law(x, "raise 1 if mean<1");
+        C.is("the mean of those here", 0, x.person(0, 6));
+        x.send(0);
+        x.send(1);
+        C.is("the mean without anybody here", 1, x.person(0, 6));
         C.is("twelve", 12, Check.law(x, "raise 0;".repeat(11) + "raise 0"));
         StringBuilder longest = new StringBuilder("raise1if1<1");
         while (longest.length() + 5 <= 400) {
@@ -366,6 +376,9 @@ final class PromiseTest {
         holds("not dry and owner", 4);
         holds("not (dry and owner)", 13);
         holds("not not dry", 2);
+        holds("0>5 or who>4", 0);
+        holds("5<0 or who>4", 0);
+        holds("who<0 or who<1 or who<2", 3);
         holds("not not not dry or dry", 15);
         holds("dry or owner and who<1 or who>2", 10);
         holds("dry and dry and not dry", 0);
@@ -415,7 +428,8 @@ final class PromiseTest {
         // BELIEVED 100 by 2 is 50: 2500 / 50 and 1 are 51.
         C.is("worth of one who is away", 50 + 3 * 51, x.person(1, 7));
         C.is("turns of one who is away", 0, x.person(1, 6));
-        C.is("shares without belief", 0, Check.of("person 0 purse 0").person(0, 8));
+        C.is("share of all", 100, Check.of("person 1 purse 0").person(0, 8));
+        C.is("share without belief", 0, Check.of("person 0 purse 0").person(0, 8));
         C.refuses("no such person", INDEX, () -> x.person(3, 0));
         C.refuses("a person below 0", INDEX, () -> x.person(-1, 0));
         C.refuses("neither", INDEX, () -> x.person(3, 9));
@@ -541,6 +555,11 @@ final class PromiseTest {
         C.is("chest", 50, x.count(5));
         C.is("shares", 3, x.person(0, 2));
         C.refuses("more than one has", STATE, () -> x.sell(0, 4));
+        Check.town(x, "chest 102");
+        C.is("for all that the chest has", 109 + 102, x.sell(0, 2));
+        C.is("no chest", 0, x.count(5));
+        C.refuses("without a chest", STATE, () -> x.sell(0, 1));
+        C.is("acts of it", 1, x.count(12));
         C.refuses("none", ARGUMENT, () -> x.sell(0, 0));
         C.refuses("a hundred", ARGUMENT, () -> x.sell(0, 100));
         C.refuses("nobody sells", INDEX, () -> x.sell(1, 0));
@@ -599,10 +618,18 @@ final class PromiseTest {
         C.is("gains", 18 + 8 * 2 + 58 * 3, x.count(5));
         C.is("two acts", 2, x.count(12));
         DryRiver old = Check.of("day 999;journey 30;person 1 purse 1");
-        for (int i = 0; i < 150; i++) {
+        for (int i = 0; i < 149; i++) {
             old.days(60);
         }
-        C.is("the day of 151 calls", 9999, old.count(4));
+        old.days(30);
+        C.is("the day by then", 9969, old.count(4));
+        C.is("sent till the last day", 9999, old.send(0));
+        C.is("back on the last day", 9999, old.home());
+        C.is("not sent", true, old.undo());
+        old.days(30);
+        C.is("the last day there is", 9999, old.count(4));
+        old.days(1);
+        C.is("it stays", 9999, old.count(4));
         C.is("sent beyond the last day", 10029, old.send(0));
         C.is("never back", NONE, old.home());
         old.days(60);
@@ -674,6 +701,7 @@ final class PromiseTest {
         C.is("one that came back ahead of it heard", 0, y.person(0, 0));
         late();
         draws();
+        farAway();
     }
 
     /** One that came back ahead hears the next one; a day that was set beyond the return brings it back at once. */
@@ -694,6 +722,26 @@ final class PromiseTest {
         C.is("is back", NONE, x.person(0, 4));
         C.is("told on day 50", 50, x.log(0, 0));
         C.is("the third draw is water", 2, x.log(0, 2));
+    }
+
+    /** One who is away does not hear the tale of one who comes back. */
+    private static void farAway() {
+        DryRiver x = Check.of("person 10 purse 0;person 50 purse 0;trusts 1 90;truth 100;journey 1", "raise 0");
+        x.send(0);
+        Check.town(x, "journey 30");
+        x.send(1);
+        x.days(2);
+        C.is("is back", 99, x.person(0, 0));
+        C.is("has not heard", 50, x.person(1, 0));
+        DryRiver y = Check.of("person 10 purse 0;journey 1", "raise 0");
+        y.seed(58);
+        y.send(0);
+        y.days(2);
+        C.is("49 is below the truth at first", 2, y.log(0, 2));
+        y.seed(27);
+        y.send(0);
+        y.days(2);
+        C.is("50 is not", 3, y.log(0, 2));
     }
 
     private static void draws() {
@@ -812,6 +860,10 @@ final class PromiseTest {
         Check.law(x, "raise 1 if day>1");
         C.is("on the last day", 100, x.reaches(98));
         C.is("behind the last day", NONE, x.reaches(99));
+        DryRiver away = Check.of("person 60 purse 0;journey 1;truth 100", "raise 0");
+        away.send(0);
+        C.is("back with what it believed", 2, away.reaches(60));
+        C.is("without a tale", NONE, away.reaches(61));
         C.refuses("x 0", ARGUMENT, () -> x.reaches(0));
         C.refuses("x 793", ARGUMENT, () -> x.reaches(793));
         C.is("x 792", NONE, x.reaches(792));
@@ -854,6 +906,11 @@ final class PromiseTest {
         C.is("how much now", 51, x.dearest(0, true));
         Check.law(x, "");
         C.is("of several the first", 0, x.dearest(100, false));
+        Check.town(x, "truth 100;journey 1");
+        x.send(0);
+        C.is("back without a tale", 51, x.dearest(100, true));
+        C.is("when it is back", 2, x.dearest(100, false));
+        x.undo();
         C.refuses("101", ARGUMENT, () -> x.dearest(101, true));
         C.refuses("-1", ARGUMENT, () -> x.dearest(-1, false));
         C.is("nothing stays", 0, x.count(4));
@@ -874,6 +931,13 @@ final class PromiseTest {
         C.is("last on the hundredth day", 100, y.last(0));
         Check.law(y, "lower 1 if day>99");
         C.is("last behind it", NONE, y.last(0));
+        DryRiver z = Check.of("person 50 purse 0;person 50 purse 0;trusts 1 90;work 1 need 50 gain 1;journey 1;truth 0",
+                "raise 0");
+        z.send(0);
+        C.is("no tale brings it down", NONE, z.last(0));
+        C.is("nor any work", 0, z.falls(100));
+        z.days(3);
+        C.is("but it does come down", 1, z.count(9));
         C.refuses("falls by 101", ARGUMENT, () -> x.falls(101));
         C.refuses("falls by -1", ARGUMENT, () -> x.falls(-1));
         C.refuses("last of none", INDEX, () -> x.last(3));
@@ -888,6 +952,8 @@ final class PromiseTest {
         Check.town(x, "chest 11");
         C.is("for 11", 3, x.chosen(false));
         C.is("how much for 11", 9, x.chosen(true));
+        Check.town(x, "chest 7");
+        C.is("the first alone", 1, x.chosen(false));
         Check.town(x, "chest 4");
         C.is("for 4", 0, x.chosen(false));
         C.is("how much for 4", 0, x.chosen(true));
@@ -958,6 +1024,7 @@ final class PromiseTest {
         said(x, 2, 0, 1, 0, 1, 1, 2, 1, 0, 0, 2, 0);
         said(x, 0, 0, NONE, 0, 1, 1, 1, 0, 0);
         said(x, 4, 0, 1, 2, 0, 0);
+        askedAlone();
         wrongSaid(x, 0, 1);
         wrongSaid(x, 0, 1, 1, 0);
         wrongSaid(x, 0, 0, 1);
@@ -992,6 +1059,17 @@ final class PromiseTest {
         Check.put(x, rows);
         C.is("ask", ask, x.ask());
         C.is("used up", false, x.end(1));
+    }
+
+    /** What was said ahead of it is forgotten: the next question stands by itself. */
+    private static void askedAlone() {
+        DryRiver x = Check.of("person 1 purse 1;person 1 purse 1;person 1 purse 1");
+        Check.put(x, 0, 1, 1, 0, 2, 1);
+        C.is("two sets", 2, x.liars(false));
+        Check.put(x, 0, 1, 1);
+        C.is("ask by four sets", 2, x.ask());
+        Check.put(x);
+        C.is("ask by all sets", 1, x.ask());
     }
 
     private static void wrongSaid(DryRiver x, int... rows) {
@@ -1129,6 +1207,8 @@ final class PromiseTest {
         C.is("the fifth seed alone", 15, x.span(3, false));
         Check.town(x, "truth 56");
         C.is("all", 124, x.span(3, false));
+        C.is("the least of no days", 20, x.span(0, false));
+        sixSeeds();
         x.seed(99);
         C.is("whatever the seed is", 124, x.span(3, false));
         C.is("it stays", 99, x.seed(5));
@@ -1142,6 +1222,16 @@ final class PromiseTest {
         C.is("trial of 60", 7, x.trial(60, false));
         C.is("span of 60", 7, x.span(60, false));
         C.is("the most of 60", 99 + 92, x.span(60, true));
+    }
+
+    /** Of seven tales seed 1 makes seven of water (no other one as many), seed 6 three (no other one as few). */
+    private static void sixSeeds() {
+        DryRiver x = Check.of("person 1 purse 1;".repeat(7) + "journey 1;truth 59", "raise 0");
+        for (int person = 0; person < 7; person++) {
+            x.send(person);
+        }
+        C.is("from seed 1", 7 * 99, x.span(2, true));
+        C.is("from seed 6", 3 * 99, x.span(2, false));
     }
 
     private static void ledAndLog() {
@@ -1232,7 +1322,37 @@ final class PromiseTest {
         C.is("the first act", true, x.undo());
         C.is("not told", 0, x.person(0, 0));
         C.is("no more", false, x.undo());
+        rowsUndone();
         thirteen(x);
+    }
+
+    private static void rowsUndone() {
+        DryRiver x = Check.of("person 98 purse 0;work 1 need 98 gain 1;journey 1;truth 100;day 7");
+        x.days(1);
+        x.image();
+        x.send(0);
+        x.days(2);
+        C.is("rows", 3, x.count(11));
+        x.undo();
+        x.undo();
+        C.is("one row", 1, x.count(11));
+        C.is("its kind", 0, x.log(0, 2));
+        C.is("its day", 7, x.log(0, 0));
+        for (int n = 0; n < 60; n++) {
+            x.send(0);
+            x.days(2);
+        }
+        C.is("sixty rows", 60, x.count(11));
+        int day = x.log(0, 0);
+        x.send(0);
+        x.days(60);
+        x.undo();
+        C.is("the latest row", day, x.log(0, 0));
+        C.is("it is a tale", 2, x.log(0, 2));
+        x.back();
+        C.is("one row of the image", 1, x.count(11));
+        C.is("the row of the image", 7, x.log(0, 0));
+        C.is("its believed", 98, x.log(0, 3));
     }
 
     private static void thirteen(DryRiver x) {
