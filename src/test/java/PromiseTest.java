@@ -377,6 +377,7 @@ final class PromiseTest {
         holds("not (dry and owner)", 13);
         holds("not not dry", 2);
         holds("0>5 or who>4", 0);
+        holds("0>1 or who>3", 0);
         holds("5<0 or who>4", 0);
         holds("who<0 or who<1 or who<2", 3);
         holds("not not not dry or dry", 15);
@@ -811,6 +812,8 @@ final class PromiseTest {
         C.is("99 at most", 4, y.sways(0, 0));
         C.is("below 0", -20, y.sways(1, 1));
         C.is("the guru of them", 0, y.guru(1));
+        Check.law(y, "raise 0");
+        C.is("a later one who sways more", 1, y.guru(1));
         C.refuses("31 days", ARGUMENT, () -> x.sways(0, 31));
         C.refuses("-1 days", ARGUMENT, () -> x.sways(0, -1));
         C.refuses("nobody sways", INDEX, () -> x.sways(3, 31));
@@ -1032,13 +1035,13 @@ final class PromiseTest {
         wrongSaid(x, 3, 0, 1);
         wrongSaid(x, 0, 1, 2);
         wrongSaid(x, 255, 1, 1);
-        int[] most = new int[36];
-        for (int i = 0; i < 36; i += 3) {
-            most[i + 1] = 1;
-            most[i + 2] = 1;
+        int[] tooMany = new int[39];
+        for (int i = 0; i < 39; i += 3) {
+            tooMany[i + 1] = 1;
+            tooMany[i + 2] = 1;
         }
-        said(x, 4, 0, 2, most);
-        wrongSaid(x, java.util.Arrays.copyOf(most, 39));
+        said(x, 4, 0, 2, java.util.Arrays.copyOf(tooMany, 36));
+        wrongSaid(x, tooMany);
         said(Check.of("person 1 purse 1"), 2, 0, NONE);
         said(new DryRiver(), 1, 0, NONE);
         wrongSaid(new DryRiver(), 0, 1, 1);
