@@ -282,6 +282,16 @@ final class DayEdgesTest {
         e.is("water (38), then none (58) by one it trusts", 99 - 7, z.person(0, 0));
         e.is("none", 0, z.person(1, 0));
         e.is("one who is away hears nothing", 50, z.person(2, 0));
+        for (int truth = 0; truth <= 100; truth += 100) {
+            DryRiver far = Check.of("person 5 purse 0;person 50 purse 0;person 50 purse 0;trusts 1 900;trusts 2 900;journey 30",
+                    law);
+            far.send(1);
+            Check.town(far, "journey 1;truth " + truth);
+            far.send(0);
+            far.days(2);
+            e.is("nor by truth " + truth, 50, far.person(1, 0));
+            e.is("one who is here hears it", truth == 0 ? 41 : 59, far.person(2, 0));
+        }
     }
 
     private static void truths() {
@@ -325,6 +335,7 @@ final class DayEdgesTest {
         Edges.pass(x, 8998);
         e.is("9997", 9997, x.count(4));
         e.is("sent till 9999", 9999, x.send(0));
+        e.is("who comes back on 9999", 9999, x.home());
         x.days(2);
         e.is("9999", 9999, x.count(4));
         e.is("still away", 9999, x.person(0, 4));
@@ -334,6 +345,15 @@ final class DayEdgesTest {
         e.is("the row's day", 9999, x.log(0, 0));
         e.is("sent beyond the last day", 10001, x.send(0));
         e.is("nobody ever comes back", NONE, x.home());
+        x.undo();
+        Check.town(x, "journey 1");
+        e.is("sent just beyond the last day", 10000, x.send(0));
+        e.is("nobody ever comes back from that, either", NONE, x.home());
+        x.days(1);
+        x.undo();
+        x.undo();
+        Check.town(x, "journey 2");
+        x.send(0);
         x.days(60);
         e.is("away for ever", 10001, x.person(0, 4));
         e.is("9999 still", 9999, x.count(4));
@@ -506,5 +526,40 @@ final class DayEdgesTest {
         e.is("the latest", 5, x.log(0, 1));
         e.is("of the latest day", 11, x.log(0, 0));
         e.is("ten rows of each work still", 10, x.led(0, false));
+        rowsComeAgain(x);
+    }
+
+    /** Rows that later ones pushed out are there again behind an undo, and behind going back. */
+    private static void rowsComeAgain(DryRiver x) {
+        Check.town(x, "");
+        String full = Probe.all(x);
+        x.days(1);
+        e.is("six rows more went", 3, x.log(59, 0));
+        x.undo();
+        e.is("all sixty again", full, Probe.all(x));
+        x.image();
+        for (int time = 0; time < 5; time++) {
+            x.days(1);
+            for (int work = 0; work < 6; work++) {
+                x.plan(work);
+            }
+            x.days(1);
+        }
+        e.is("none of the sixty is left", 12, x.log(59, 0));
+        x.back();
+        e.is("all sixty again, as in the image", full, Probe.all(x));
+        DryRiver y = Check.of("work 1 need 0 gain 0;work 2 need 0 gain 0");
+        y.days(1);
+        y.image();
+        String two = Probe.all(y).replace(",1, seed", ",0, seed");
+        y.undo();
+        Check.town(y, "person 5 purse 0;journey 1;chest 0");
+        y.send(0);
+        y.days(9);
+        y.send(0);
+        y.days(9);
+        e.is("two other rows", 0, y.log(0, 1) + y.log(1, 1));
+        y.back();
+        e.is("the two of the image", two, Probe.all(y));
     }
 }

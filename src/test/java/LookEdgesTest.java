@@ -30,7 +30,46 @@ final class LookEdgesTest {
         trial();
         span();
         led();
+        setsOfNone();
+        manyCalls();
         e.close();
+    }
+
+    private static void setsOfNone() {
+        e.says("Sets are bits; of none they count for nothing.");
+        DryRiver alone = Check.of("person 50 purse 0;work 1 need 60 gain 1;chest 0", "raise 0");
+        for (DryRiver x : new DryRiver[] {new DryRiver(), alone}) {
+            e.is("doubts", 0, x.doubts());
+            e.is("falls", 0, x.falls(9));
+            e.is("chosen", 0, x.chosen(false));
+            e.is("the gain of none", 0, x.chosen(true));
+            e.is("sure", 0, x.liars(true));
+            e.is("works that stand", 0, x.count(8));
+            e.is("works that are fallen", 0, x.count(9));
+        }
+        e.is("here", 0, new DryRiver().count(7));
+        e.is("hermits", 0, new DryRiver().hermits());
+        e.is("the set of none is one that fits", 1, new DryRiver().liars(false));
+        e.is("word", 0, alone.word(0));
+        e.is("none must be told", 0, alone.must(50, 30));
+        alone.send(0);
+        e.is("here, when all are away", 0, alone.count(7));
+        e.is("doubts, when all are away", 0, alone.doubts());
+    }
+
+    private static void manyCalls() {
+        e.says("An object is used for at most 512 calls after it has been made; what later calls answer is free.");
+        DryRiver x = new DryRiver();
+        x.feed(0x70657273, 0x6f6e2038, 0x30207075, 0x72736520, 0x31303020);
+        x.town();
+        for (int call = 3; call <= 508; call += 2) {
+            x.dry(0, call % 4 == 1);
+            x.days(60);
+        }
+        e.is("the 509th", 1, x.feed(0, 0, 0, 0, 0) / 20);
+        e.is("the 510th", 9999, x.count(4));
+        e.is("the 511th", true, x.undo());
+        e.is("the 512th", 11, x.count(12));
     }
 
     private static DryRiver tied(String... trusts) {
@@ -140,9 +179,12 @@ final class LookEdgesTest {
         e.is("the first", 1, up.reaches(60));
         e.is("the second", 2, up.reaches(61));
         e.is("none", NONE, up.reaches(71));
-        DryRiver away = Check.of("person 60 purse 0;journey 30", "raise 0");
-        away.send(0);
-        e.is("when it is back", 31, away.reaches(60));
+        for (int truth = 0; truth <= 100; truth += 100) {
+            DryRiver away = Check.of("person 60 purse 0;journey 30;truth " + truth, "raise 0");
+            away.send(0);
+            e.is("when it is back", 31, away.reaches(60));
+            e.is("it tells nothing ahead", NONE, away.reaches(61));
+        }
         for (int bad : new int[] {0, -1, 793, Edges.LEAST, Edges.GREATEST}) {
             e.refuses("x " + bad, Edges.ARGUMENT, () -> x.reaches(bad));
         }
@@ -182,6 +224,16 @@ final class LookEdgesTest {
         e.is("nobody", NONE, new DryRiver().ruin());
         DryRiver away = Check.of("person 0 purse 0;person 0 purse 0;person 99 purse 0;journey 5", "raise 0");
         e.is("two of three", 0, away.ruin());
+        for (int truth = 0; truth <= 100; truth += 100) {
+            DryRiver back = Check.of("person 32 purse 0;person 33 purse 0;person 33 purse 0;trusts 1 900;trusts 2 900;journey 1;truth "
+                    + truth, "raise 0");
+            back.send(0);
+            e.is("one of three who tells nothing ahead", NONE, back.ruin());
+            back.tell(1);
+            back.send(1);
+            back.send(2);
+            e.is("nobody here, then one of three", NONE, back.ruin());
+        }
         away.send(0);
         e.is("one of two, till one comes back", 6, away.ruin());
         away.send(2);
@@ -205,6 +257,12 @@ final class LookEdgesTest {
         e.is("how much now", 51, x.dearest(100, true));
         e.is("without anybody, when", 0, new DryRiver().dearest(100, false));
         e.is("without anybody, how much", 1, new DryRiver().dearest(100, true));
+        for (int truth = 0; truth <= 100; truth += 100) {
+            DryRiver back = Check.of("person 60 purse 0;person 50 purse 0;journey 1;truth " + truth, "raise 0");
+            back.send(0);
+            e.is("when one is back, who tells nothing ahead", 2, back.dearest(100, false));
+            e.is("how much, when one is back", 61, back.dearest(100, true));
+        }
         // 7 and 0 cost the same: a belief that is more is not yet a price that is.
         DryRiver low = Check.of("person 0 purse 0", "raise 1 if day<7");
         e.is("the same price", 0, low.dearest(100, false));
@@ -236,6 +294,18 @@ final class LookEdgesTest {
             e.refuses("by " + n, Edges.ARGUMENT, () -> x.falls(n));
         }
         e.is("without a work", 0, new DryRiver().falls(100));
+        for (int truth = 0; truth <= 100; truth += 100) {
+            e.is("one who comes back tells nothing ahead", 0, stands(truth).falls(100));
+        }
+    }
+
+    /** A work that stands by a tale of nobody: it falls if there is none, another one stands and falls if there is water. */
+    private static DryRiver stands(int truth) {
+        DryRiver x = Check.of("person 50 purse 0;person 50 purse 0;trusts 1 90;journey 1;work 1 need 50 gain 0;"
+                + "work 1 need 101 gain 0;truth " + truth, "lower 9 if belief>50");
+        x.send(0);
+        x.days(1);
+        return x;
     }
 
     private static void chosen() {
@@ -305,6 +375,16 @@ final class LookEdgesTest {
         }
         e.is("one tale at 1: 9 of 108", 833, river(1, 1));
         e.is("in any order", river(7, 1, 1, 0, 0, 1), river(7, 0, 1, 1, 1, 0));
+        DryRiver cut = new DryRiver();
+        for (int tales = 0; tales <= 12; tales++) {
+            cut.feed(0x01010101, 0x01010101, 0x01010101, -1, -1);
+            cut.end(tales);
+            e.is("of 0 by " + tales + " of more bytes", 0, cut.river(0));
+            cut.feed(0x01010101, 0x01010101, 0x01010101, -1, -1);
+            cut.end(tales);
+            int due = Math.max(0, 5 - tales);
+            e.is("more than " + tales + " of more bytes", due, cut.more(1));
+        }
         for (int bad : new int[] {-1, 101, Edges.LEAST, Edges.GREATEST}) {
             e.refuses("r " + bad, Edges.ARGUMENT, () -> river(bad));
             e.refuses("r " + bad + " with a tale", Edges.ARGUMENT, () -> river(bad, 1));
@@ -377,8 +457,23 @@ final class LookEdgesTest {
         e.is("the same again", 2, liars(2, false, 0, 1, 1, 1, 0, 1));
         e.is("what cannot be", 0, liars(2, false, 0, 1, 1, 0, 1, 0));
         e.is("nobody is sure without a set", 0, liars(2, true, 0, 1, 1, 0, 1, 0));
+        e.is("who says it counts", 2, liars(3, false, 0, 1, 1, 2, 1, 0));
+        e.is("of whom it is said counts", 0, liars(3, false, 0, 1, 1, 2, 0, 0, 1, 2, 1));
         e.is("an odd round cannot be", 0, liars(3, false, 0, 1, 0, 1, 2, 0, 2, 0, 0));
         e.is("the last two of eight", 128, liars(8, false, 7, 6, 0));
+        DryRiver again = Edges.people(1, 1, 1);
+        for (int time = 0; time < 3; time++) {
+            again.feed(0x000101ff, -1, -1, -1, -1);
+            again.end(3);
+            e.is("four each time, whatever was behind the end", 4, again.liars(false));
+            e.is("eight of none each time", 8, again.liars(false));
+            again.feed(0x000101ff, -1, -1, -1, -1);
+            again.end(3);
+            e.is("nobody is sure each time", 0, again.liars(true));
+            again.feed(0x000101ff, -1, -1, -1, -1);
+            again.end(3);
+            e.is("the same two each time", 2, again.ask());
+        }
         e.says("LIARS (of each three bytes: who, of whom, 1 or 0; at most 36 bytes)");
         e.is("36 bytes", 128, liars(8, false, rows(12)));
         e.refuses("39 bytes", Edges.ARGUMENT, () -> liars(8, false, rows(13)));
@@ -426,6 +521,8 @@ final class LookEdgesTest {
                 + "bits (without itself).");
         e.is("trust of 1", 2, tied("00", "10").word(0));
         e.is("trust of 0", 0, tied("00", "00").word(0));
+        e.is("trust of 0 in the other one", 0, tied("00", "00").word(1));
+        e.is("trust of the first one", 1, tied("01", "00").word(1));
         e.is("trust the other way", 0, tied("01", "00").word(0));
         DryRiver ring = tied("00000001", "10000000", "01000000", "00100000", "00010000", "00001000", "00000100", "00000010");
         for (int person = 0; person < 8; person++) {
@@ -487,6 +584,7 @@ final class LookEdgesTest {
         e.is("nobody", 0, new DryRiver().hermits());
         e.is("one alone, whatever the own figure", 1, tied("9").hermits());
         e.is("eight", 255, Check.of(Edges.persons(1, 1, 1, 1, 1, 1, 1, 1)).hermits());
+        e.is("one who trusts the first alone", 4, tied("000", "100", "000").hermits());
         e.is("one tie of 1", 255 & ~129, tied("00000001", "00000000", "00000000", "00000000", "00000000", "00000000",
                 "00000000", "00000000").hermits());
         DryRiver x = tied("01", "00");
@@ -577,6 +675,10 @@ final class LookEdgesTest {
             e.refuses("of " + bad, Edges.INDEX, () -> x.last(bad));
         }
         e.refuses("without a work", Edges.INDEX, () -> new DryRiver().last(0));
+        for (int truth = 0; truth <= 100; truth += 100) {
+            e.is("one who comes back tells nothing ahead", NONE, stands(truth).last(0));
+            e.is("nor of what is planned", NONE, stands(truth).last(1));
+        }
         DryRiver six = Check.of("person 50 purse 0;" + Edges.repeated("work 1 need 50 gain 0", 6, ";"), "lower 1 if day>0");
         e.is("the sixth", 2, six.last(5));
         e.refuses("a seventh", Edges.INDEX, () -> six.last(6));
@@ -598,6 +700,13 @@ final class LookEdgesTest {
         e.is("still away", 1000, x.home());
         x.days(1);
         e.is("the next one", 1029, x.home());
+        Check.town(x, "day 5;journey 3;chest 999");
+        x.send(1);
+        e.is("whatever the chest has", 8, x.home());
+        Check.town(x, "day 99");
+        e.is("one whose day has gone by comes back on this one", 99, x.home());
+        x.days(1);
+        e.is("as it does", 99, x.log(0, 0));
         e.is("nobody", NONE, new DryRiver().home());
     }
 
@@ -658,6 +767,11 @@ final class LookEdgesTest {
             e.is("the most by truth " + truth, water ? 99 : 0, x.span(2, true));
             e.is("the seed stays", seedWith(truth % 2 == 0), x.seed(1));
         }
+        for (int people = 1; people <= 8; people++) {
+            for (int truth = 0; truth <= 100; truth++) {
+                spanOf(people, truth);
+            }
+        }
         DryRiver x = Check.of("person 40 purse 0", "raise 1 if day>58");
         e.is("the least of 0", 40, x.span(0, false));
         e.is("the most of 0", 40, x.span(0, true));
@@ -668,6 +782,28 @@ final class LookEdgesTest {
             e.refuses("the most of " + n, Edges.ARGUMENT, () -> x.span(n, true));
         }
         e.is("without anybody", 0, new DryRiver().span(60, true));
+    }
+
+    /** All come back on one day: as many believe 99 as draws, one behind another, are below the truth. */
+    private static void spanOf(int people, int truth) {
+        DryRiver x = Check.of(Edges.persons(new int[people]) + ";journey 1;truth " + truth, "raise 0");
+        for (int person = 0; person < people; person++) {
+            x.send(person);
+        }
+        int least = 8;
+        int most = 0;
+        for (int first = 1; first <= 6; first++) {
+            int seed = first;
+            int told = 0;
+            for (int person = 0; person < people; person++) {
+                seed = (int) (1103515245L * seed + 12345);
+                told += (seed >> 16 & 0x7fff) % 100 < truth ? 1 : 0;
+            }
+            least = Math.min(least, told);
+            most = Math.max(most, told);
+        }
+        e.is("the least of " + people + " by truth " + truth, 99 * least, x.span(2, false));
+        e.is("the most of " + people + " by truth " + truth, 99 * most, x.span(2, true));
     }
 
     private static void led() {

@@ -9,7 +9,7 @@ import java.util.Random;
 
 /** Runs of random calls, each one's answer held against the model's: always the same runs, by fixed seeds. */
 final class ModelTest {
-    private static final int RUNS = 1500;
+    private static final int RUNS = 800;
     private static final int CALLS = 200;
     private static final String[] FIRST = {"person", "trusts", "work", "chest", "journey", "truth", "shares", "day"};
     private static final String[] PARTS = {"who", "belief", "mean", "works", "ties", "day"};

@@ -27,6 +27,7 @@ final class PromiseEdgesTest {
         log();
         seed();
         undo();
+        fullTown();
         undoneAll();
         thirteenActs();
         whatForgets();
@@ -209,6 +210,32 @@ final class PromiseEdgesTest {
                 e.refuses("of " + person, Edges.INDEX, () -> x.person(person, which));
             }
         }
+        personAway();
+    }
+
+    private static void personAway() {
+        e.says("4 till which DAY it is away (NONE, if HERE), 5 PULL, 6 what it TURNS by now, 7 WORTH, 8 SHARE (5, 6 also of one "
+                + "who is away, by those who are HERE).");
+        DryRiver x = two();
+        Check.law(x, "raise 1 if mean<21;raise 2 if belief>49;raise 4 if mean>49;raise 8 if ties>0");
+        e.is("here", NONE, x.person(0, 4));
+        e.is("turns, here", 2 + 8, x.person(0, 6));
+        x.send(0);
+        e.is("till day 6", 6, x.person(0, 4));
+        e.is("pulled by the one who is here", -3, x.person(0, 5));
+        e.is("turns by those who are here", 1 + 2 + 8, x.person(0, 6));
+        e.is("worth", 100, x.person(0, 7));
+        e.is("no share", 0, x.person(0, 8));
+        x.send(1);
+        e.is("nobody pulls", 0, x.person(0, 5));
+        e.is("turns without anybody here", 1 + 2 + 8, x.person(0, 6));
+        e.is("the other one, too", 1 + 8, x.person(1, 6));
+        DryRiver none = Check.of("person 50 purse 0 dry");
+        none.send(0);
+        e.is("a dry one without a law turns when it is away", -1, none.person(0, 6));
+        Check.town(none, "day 0");
+        none.days(5);
+        e.is("but does not believe less", 50, none.person(0, 0));
     }
 
     private static void trust() {
@@ -506,6 +533,121 @@ final class PromiseEdgesTest {
         }
         e.is("no more", false, x.undo());
         e.is("nothing happens", ahead[0], Probe.all(x));
+    }
+
+    private static final int[] BELIEFS = {51, 42, 33, 64, 75, 86, 97, 28};
+
+    /** Eight people and six works, each with numbers of its own in all that it has. */
+    private static DryRiver eight() {
+        DryRiver x = new DryRiver();
+        for (int person = 0; person < 8; person++) {
+            Check.town(x, "person " + BELIEFS[person] + " purse " + (100 + 10 * person) + (person % 3 == 1 ? " dry" : ""));
+        }
+        Check.town(x, "trusts 0 01234567;trusts 1 90876543;trusts 2 21034567;trusts 3 98706543;trusts 4 13570246;trusts 5 24681030;"
+                + "trusts 6 86421907;trusts 7 75319860;journey 3;truth 40;chest 60;day 5");
+        Check.town(x, "shares 0 1;shares 1 3;shares 2 5;shares 3 7;shares 4 9;shares 5 11;shares 6 13;shares 7 15;"
+                + "work 11 need 100 gain 1;work 12 need 200 gain 2;work 13 need 300 gain 3;work 14 need 400 gain 4;"
+                + "work 15 need 799 gain 5;work 16 need 150 gain 6");
+        Check.law(x, "lower 9 if day>5");
+        return x;
+    }
+
+    private static void fullTown() {
+        DryRiver x = eight();
+        int dry = 0;
+        int shares = 0;
+        for (int person = 0; person < 8; person++) {
+            int one = 2 * person + 1;
+            e.is("belief of " + person, BELIEFS[person], x.person(person, 0));
+            e.is("purse of " + person, 100 + 10 * person, x.person(person, 1));
+            e.is("shares of " + person, one, x.person(person, 2));
+            e.is("dry is " + person, person % 3 == 1 ? 1 : 0, x.person(person, 3));
+            // 476 by 8 is 59: 3481 by 50 is 69, and 1.
+            e.is("worth of " + person, 100 + 10 * person + one * 70, x.person(person, 7));
+            e.is("share of " + person, BELIEFS[person] * 100 / 476, x.person(person, 8));
+            e.is("ahead by 0 of " + person, BELIEFS[person], x.ahead(person, 0));
+            dry |= x.person(person, 3) << person;
+            shares += one;
+        }
+        e.is("the dry ones", 2 | 16 | 128, dry);
+        e.is("shares of all", shares, x.count(10));
+        int[] costs = {11, 12, 13, 14, 15, 16};
+        int[] needs = {100, 200, 300, 400, 799, 150};
+        for (int work = 0; work < 6; work++) {
+            e.is("cost of " + work, costs[work], x.work(work, 0));
+            e.is("need of " + work, needs[work], x.work(work, 1));
+            e.is("gain of " + work, work + 1, x.work(work, 2));
+        }
+        e.is("works for 60: all that are believed but the first", 2 | 4 | 8 | 32, x.chosen(false));
+        e.is("how much", 15, x.chosen(true));
+        comesAgain(x);
+        actsOfEach();
+    }
+
+    /** All of a full town is as it was behind an act undone, and behind going back. */
+    private static void comesAgain(DryRiver x) {
+        String before = Probe.all(x);
+        x.image();
+        for (int person = 0; person < 8; person++) {
+            x.send(person);
+        }
+        x.days(4);
+        e.is("all came back", 255, x.count(7));
+        x.days(60);
+        x.undo();
+        x.undo();
+        for (int person = 7; person >= 0; person--) {
+            e.is("all but " + person + " are away", 255 & ~(255 >> 7 - person), x.count(7));
+            x.undo();
+        }
+        e.is("all undone", before, Probe.all(x));
+        for (int person = 0; person < 8; person++) {
+            x.dry(person, person % 3 != 1);
+            x.tie(person, (person + 1) % 8, 0);
+            x.buy(person, 1);
+            x.sell(7 - person, 1);
+        }
+        x.days(60);
+        x.back();
+        e.is("all as in the image", before, Probe.all(x));
+    }
+
+    /** What an act answers, and what it does, is of the one that is named. */
+    private static void actsOfEach() {
+        for (int person = 0; person < 8; person++) {
+            DryRiver x = eight();
+            int price = x.price();
+            e.is("told " + person, Math.min(99, BELIEFS[person] + 20), x.tell(person));
+            x.undo();
+            e.is("bought by " + person, 100 + 10 * person - price, x.buy(person, 1));
+            e.is("shares of " + person, 2 * person + 2, x.person(person, 2));
+            e.is("sold by " + person, 100 + 10 * person, x.sell(person, 1));
+            e.is("sent " + person, 8, x.send(person));
+            Check.town(x, "journey 9");
+            e.is("sent behind " + person, 14, x.send((person + 1) % 8));
+            e.is("till when " + person, 8, x.person(person, 4));
+        }
+        DryRiver x = eight();
+        Check.law(x, "raise 0");
+        Check.town(x, "trusts 0 00000000;trusts 1 00000000;trusts 2 00000000;trusts 3 00000000;trusts 4 00000000;trusts 5 00000000;"
+                + "trusts 6 00000000;trusts 7 00000000");
+        x.days(1);
+        e.is("four stand for 50, the fifth is not believed, the sixth is 16", 1 | 2 | 4 | 8, x.count(8));
+        for (int person = 0; person < 8; person++) {
+            x.send(person);
+        }
+        e.is("four fall", 4, x.days(1));
+        Check.town(x, "");
+        int[] order = {2, 0, 3, 1};
+        int fallen = 1 | 2 | 4 | 8;
+        for (int work : order) {
+            e.is("fallen " + work, 2, x.work(work, 3));
+            x.plan(work);
+            fallen &= ~(1 << work);
+            e.is("planned anew " + work, 0, x.work(work, 3));
+            e.is("fallen still", fallen, x.count(9));
+            e.refuses("planned already " + work, Edges.STATE, () -> x.plan(work));
+        }
     }
 
     private static void undoneAll() {

@@ -20,6 +20,8 @@ final class RefusedTest {
         e = new Edges("RefusedTest");
         e.says("Of several exceptions the one told first is thrown; a call that throws changes nothing but the TAPE, where it is "
                 + "used up, and fault(), where a text is read (also by one that is refused).");
+        e.says("IndexOutOfBoundsException: there is no such PERSON, WORK. IllegalArgumentException: a number is none, or two are "
+                + "one. IllegalStateException: it cannot be.");
         noSuchPerson();
         noSuchWork();
         twoAreOne();

@@ -323,6 +323,16 @@ final class TermEdgesTest {
         e.townFrom(two, "day 1 0", 6);
         e.townFrom(two, "day x", 4);
         e.townFrom(two, "chest\u00b2", 5);
+        e.townFrom(two, "chest :5", 6);
+        e.townFrom(two, "chest /5", 6);
+        e.townFrom(two, "chest :", 6);
+        e.townFrom(two, "chest 5/", 7);
+        e.townFrom(two, "chest 5:", 7);
+        e.townFrom(two, "trusts 0 :1", 9);
+        e.townFrom(two, "trusts 0 /1", 9);
+        e.townFrom(two, "trusts 0 1:", 9);
+        e.townFrom(two, "trusts 0 1/", 9);
+        e.townFrom(two, "trusts : 11", 7);
         e.says("All numbers are of 1 to 3 digits (N 0 to 30).");
         e.law("raise 0", NONE);
         e.law("raise 30", NONE);
@@ -341,6 +351,11 @@ final class TermEdgesTest {
         e.law("raise 1 if 0<0000", 13);
         e.law("raise 1 if 0<1+1000", 15);
         e.law("raise 1 if 0<-1", 13);
+        e.law("raise :", 6);
+        e.law("raise /", 6);
+        e.law("raise 1 if :<5", 11);
+        e.law("raise 1 if 0<:5", 13);
+        e.law("raise 1 if 0</5", 13);
     }
 
     private static void lawLines() {
@@ -421,6 +436,9 @@ final class TermEdgesTest {
         e.law("raise 1 if ()", 12);
         e.law("raise 1 if (dry))", 16);
         // A person of each kind: 0 neither, 1 dry, 2 an owner, 3 both.
+        holds("40<belief or dry", 15);
+        holds("50<belief or dry", 10);
+        holds("999<who or 40<belief and owner", 12);
         holds("dry or owner and owner", 14);
         holds("owner and owner or dry", 14);
         holds("(dry or owner) and owner", 12);
@@ -462,6 +480,9 @@ final class TermEdgesTest {
         e.is("a tie of 1", 1, ties(Check.of(EIGHT + ";trusts 0 90000001")));
         e.is("seven ties", 7, ties(Check.of(EIGHT + ";trusts 0 01111111")));
         DryRiver tied = Check.of("person 50 purse 0;person 50 purse 0;trusts 0 01", "raise 1 if ties>0");
+        e.is("nobody's tie", 0, tied.person(1, 6));
+        tied.tie(1, 0, 1);
+        e.is("a tie to the first one", 1, tied.person(1, 6));
         tied.send(1);
         e.is("a tie to one who is away", 1, tied.person(0, 6));
         e.is("a share", 1, turnsBy("person 50 purse 0;shares 0 1", "raise 1 if owner"));
@@ -477,6 +498,9 @@ final class TermEdgesTest {
         Check.law(none, "raise 3;lower 30;raise 2 if dry;lower 7 if not dry");
         e.is("raise less lower", -34, none.person(0, 6));
         e.is("raise less lower, dry", -25, none.person(1, 6));
+        Check.law(none, "raise 1 if dry;raise 2;lower 4 if not dry;lower 8;raise 16 if owner;raise 30;lower 1 if who>0");
+        e.is("a line without a condition holds behind one that does not", 2 - 4 - 8 + 30, none.person(0, 6));
+        e.is("and behind one that does", 1 + 2 - 8 + 30 - 1, none.person(1, 6));
         e.is("equal is not less", 0, turnsBy("person 50 purse 0", "raise 1 if belief<50"));
         e.is("equal is not more", 0, turnsBy("person 50 purse 0", "raise 1 if belief>50"));
         e.is("less by one", 1, turnsBy("person 50 purse 0", "raise 1 if belief<51"));
@@ -505,8 +529,48 @@ final class TermEdgesTest {
         e.law("raise1if not(dry)and(owner)or who<1and belief>2", NONE);
         e.law("raise1if notdry", 9);
         e.law("raise1if dryand owner", 9);
+        e.law("raise 1 if dryz", 11);
+        e.law("raise 1 if drya", 11);
+        eachLetter(TOWN_OF_ALL, false);
+        eachLetter(LAW_OF_ALL, true);
         e.law("raise1if who<1and", 17);
         e.law("RAISE 1", 0);
+    }
+
+    /** A text with each kind of line, for a town of one person: all of it stands between blanks. */
+    private static final String TOWN_OF_ALL = "person 1 purse 2 dry ; trusts 0 01 ; shares 0 1 ; work 1 need 2 gain 3 ; "
+            + "chest 4 ; journey 5 ; truth 6 ; day 7";
+    private static final String LAW_OF_ALL = "raise 1 if not dry and owner or who + belief > 3 ; "
+            + "lower 2 if mean + works + ties + day < 5";
+
+    private static void allOf(String text, boolean ofLaw, int wrongAt) {
+        if (ofLaw) {
+            e.law(text, wrongAt);
+        } else {
+            e.townFrom("person 9 purse 9", text, wrongAt);
+        }
+    }
+
+    /** No letter of a word may be another one, and none may be missing or come behind it. */
+    private static void eachLetter(String text, boolean ofLaw) {
+        allOf(text, ofLaw, NONE);
+        int begin = 0;
+        for (String thing : text.split(" ")) {
+            String ahead = text.substring(0, begin);
+            String behind = text.substring(begin + thing.length());
+            for (int at = 0; at < thing.length() && Character.isLetter(thing.charAt(0)); at++) {
+                allOf(ahead + thing.substring(0, at) + 'q' + thing.substring(at + 1) + behind, ofLaw, begin);
+                allOf(ahead + thing.substring(0, at) + 'z' + thing.substring(at + 1) + behind, ofLaw, begin);
+                allOf(ahead + thing.substring(0, at) + 'z' + thing.substring(at) + behind, ofLaw, begin);
+            }
+            if (Character.isLetter(thing.charAt(0))) {
+                allOf(ahead + thing.substring(0, thing.length() - 1) + behind, ofLaw, begin);
+                allOf(ahead + thing + 'a' + behind, ofLaw, begin);
+                allOf(ahead + thing + 'z' + behind, ofLaw, begin);
+                allOf(ahead + Character.toUpperCase(thing.charAt(0)) + thing.substring(1) + behind, ofLaw, begin);
+            }
+            begin += thing.length() + 1;
+        }
     }
 
     private static void blanks() {
@@ -580,6 +644,17 @@ final class TermEdgesTest {
         e.townFrom(two, "chest 1000;truth 101", 6);
         e.townFrom(two, "shares 9 999", 7);
         e.townFrom(two, "person 100 purse 1000", 7);
+        e.townFrom(two, "person 100", 7);
+        e.townFrom(two, "person 5 7", 9);
+        e.townFrom(two, "work 0 gain 5", 5);
+        e.townFrom(two, "work 5 7", 7);
+        e.townFrom(two, "work 1 need 5 7", 14);
+        e.townFrom(two, "5", 0);
+        e.townFrom(two, "day 1;5", 6);
+        withoutOne(TOWN_OF_ALL, false);
+        withoutOne(LAW_OF_ALL, true);
+        e.law("raise 1 if dry or owner )", 24);
+        e.law("raise 1 if ( dry or owner ; raise 1", 26);
         e.law("lower 1 if   not not not not not   not   not dry", 41);
         e.law("raise 31 if dry", 6);
         e.law("raise 1 iff dry", 8);
@@ -592,6 +667,29 @@ final class TermEdgesTest {
         e.townText(x, "day 5", NONE);
         e.lawText(x, "raise 1;", 8);
         e.lawText(x, "raise 1", NONE);
+    }
+
+    /** Where one thing is missing the next one cannot stand; of two numbers it is what comes behind both. */
+    private static void withoutOne(String text, boolean ofLaw) {
+        String[] things = text.split(" ");
+        for (int missing = 0; missing < things.length; missing++) {
+            StringBuilder left = new StringBuilder();
+            int wrongAt = 0;
+            for (int i = 0; i < things.length; i++) {
+                if (i != missing) {
+                    left.append(left.length() == 0 ? "" : " ").append(things[i]);
+                }
+                if (i == (isNumber(things, missing) && isNumber(things, missing + 1) ? missing + 1 : missing)) {
+                    wrongAt = i == things.length - 1 ? left.length() : left.length() + (left.length() == 0 ? 0 : 1);
+                }
+            }
+            boolean mayBeMissing = !ofLaw && things[missing].equals("dry") || things[missing].equals("not");
+            allOf(left.toString(), ofLaw, mayBeMissing ? NONE : wrongAt);
+        }
+    }
+
+    private static boolean isNumber(String[] things, int at) {
+        return at < things.length && Character.isDigit(things[at].charAt(0));
     }
 
     private static void tooMany() {
