@@ -533,9 +533,9 @@ public final class DryRiver {
         }
 
         int useUp() {
-            int length = size;
+            int used = size;
             size = 0;
-            return length;
+            return used;
         }
 
         boolean holdsTales(int length) {

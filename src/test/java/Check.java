@@ -62,6 +62,14 @@ final class Check {
         is(what, want ? 1 : 0, got ? 1 : 0);
     }
 
+    void is(String what, String want, String got) {
+        held++;
+        if (!want.equals(got)) {
+            wrong++;
+            System.out.println(name + ": " + what + " answered " + got + ", due is " + want);
+        }
+    }
+
     /** The class must be the very one: what the machine throws is of a class below it. */
     void refuses(String what, Class<?> want, Call call) {
         held++;
